@@ -368,7 +368,6 @@ public final class TuneSchool {
             return finding(BEYOND);
         }
         moment.stand(voices[a], voices[b], faultNumber(i, 1), lastOfBoth(voices[a], voices[b]));
-        moment.alone = a == b ? voices[a] : null;
         Rule told = faultRules[i];
         return fine(moment.bothSound() && told != null ? told.mends(moment) : NONE);
     }
@@ -1193,7 +1192,7 @@ public final class TuneSchool {
             System.arraycopy(tunesFrom, from, tunesFrom, to, ROW);
         }
 
-        /** Into the fresh row. Only the first TICK of a NOTE knows what is ahead of it: the others are asked just once. */
+        /** Into the fresh row. Only the first TICK of a NOTE knows what is ahead of it: the others are asked once. */
         void work(int i, Standing s) {
             if (i != AHEAD_OF_ALL && !isHeard(i)) {
                 return;

@@ -128,6 +128,18 @@ public final class FaultsTest {
             Tunes.allTrue(x, 0, 1, 48);
             due.is(0, x.faults(0));
         }
+        cadenceAtTheLastTickOfAll();
+    }
+
+    private static void cadenceAtTheLastTickOfAll() {
+        TuneSchool x = two(LONG, LONG);
+        x.note(1, 23, 61, 8);
+        x.rule(0, 3);
+        Tunes.allTrue(x, 0, 0, 12);
+        Tunes.allTrue(x, 0, 1, 48);
+        due.is(1, x.faults(0));
+        due.is(191, x.fault(0, 1));
+        due.is(191, x.canon(0, 0, 0, 1, 0));
     }
 
     private static void leap() {

@@ -27,6 +27,7 @@ public final class SettingsTest {
         spoil();
         check();
         traceStays();
+        askedOfTwoBehindAskingOne();
         keptByWriting();
         due.end();
     }
@@ -493,6 +494,22 @@ public final class SettingsTest {
         due.is(bodies, x.count(2));
         due.is(1, Tunes.same(trace, Tunes.traceOf(x)));
         due.is(1, x.canon(0, 0, 0, 0, 0) == NONE && x.count(2) == 4 ? 1 : 0);
+    }
+
+    /** faults() ends with VOICE 5 and itself; what comes behind it is asked of two all the same. */
+    private static void askedOfTwoBehindAskingOne() {
+        TuneSchool x = given("60:1 62:1");
+        Tunes.voice(x, 5, "60:8");
+        Tunes.rule(x, 0, 0, 0, 0);
+        x.strong(1);
+        x.faults(0);
+        due.is(0, x.set(1, 0, 0, true, 60, 64, 30));
+        due.is(1, Tunes.same("60:1 62:1", Tunes.told(x, 1)));
+        due.is(1, x.many());
+        x.faults(0);
+        due.is(1, x.check());
+        x.faults(0);
+        due.is(0, x.canon(0, 0, 0, 1, 0));
     }
 
     private static void keptByWriting() {
