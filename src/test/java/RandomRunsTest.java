@@ -11,12 +11,14 @@ public final class RandomRunsTest {
     private static final int RUNS = 1500, CALLS = 512;
     private static final String TOLD = "R0123456789: ";
     /** A letter an argument, see argument(); how often the call comes. */
-    private static final String[] CALLS_WITH = {"voice vN 1", "drop v 1", "note vipl 40", "cut vwN 1", "size vw 1",
-        "number vwi 3", "end v 2", "sounds vt 3", "transpose vb 3", "copy vivij 3", "undo 4", "rule Rk 2",
-        "school QyS 1", "clear r 1", "truth Ras? 30", "is ra 1", "seat QdR 6", "seated Qd 2", "strong m 3", "key K 2",
-        "weight d0 2", "faults r 8", "fault fd 5", "mend f 8", "canon vrtbd 5", "canons vrbd 2", "follows vttbd 3", "set vvr?LHn 6",
-        "goOn n 5", "least 3", "many 3", "row iLd 12", "spoil iLdW 6", "check 6", "print v 4", "read v 3", "put cC 6",
-        "cutLine c 1", "character c 3", "status 3", "trace f 5", "count d 6", "count x 3"};
+    private static final String[] CALLS_WITH = {
+        "voice vN 1", "drop v 1", "note vipl 40", "cut vwN 1", "size vw 1", "number vwi 3", "end v 2",
+        "sounds vt 3", "transpose vb 3", "copy vivij 3", "undo 4", "rule Rk 2", "school QyS 1", "clear r 1",
+        "truth Ras? 30", "is ra 1", "seat QdR 6", "seated Qd 2", "strong m 3", "key K 2", "weight d0 2",
+        "faults r 8", "fault fd 5", "mend f 8", "canon vrtbd 5", "canons vrbd 2", "follows vttbd 3",
+        "set vvr?LHn 6", "goOn n 5", "least 3", "many 3", "row iLd 12", "spoil iLdW 6", "check 6", "print v 4",
+        "read v 3", "put cC 6", "cutLine c 1", "character c 3", "status 3", "trace f 5", "count d 6",
+        "count x 3"};
 
     private final Random random;
     private final Map<String, Integer> answers;
