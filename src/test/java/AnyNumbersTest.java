@@ -6,15 +6,16 @@ import java.util.List;
 import java.util.Random;
 
 /**
- * "No call may ever throw or fail to end, for any arguments in any state" (LANGUAGE.md, 7): each call, with bounds of the
- * document and numbers far beyond them in each place, and its answers held against those of PlainSchool.
+ * "No call may ever throw or fail to end, for any arguments in any state" (LANGUAGE.md, 7): each call, with bounds of
+ * the document and numbers far beyond them in each place, and its answers held against those of PlainSchool.
  */
 public final class AnyNumbersTest {
     private static final int OBJECTS = 30, CALLS = 380;
-    private static final int[] NUMBERS = {Integer.MIN_VALUE, Integer.MIN_VALUE + 1, -1073741824, -1000000000, -101, -100, -61, -60,
-        -12, -11, -2, -1, 0, 1, 2, 3, 4, 5, 6, 7, 8, 9, 11, 12, 15, 16, 17, 20, 21, 23, 24, 25, 26, 30, 31, 32, 47, 48, 49, 59, 60,
-        61, 62, 63, 64, 65, 75, 76, 119, 120, 121, 126, 127, 159, 160, 161, 191, 192, 193, 199, 200, 201, 999, 1000, 1001, 4095,
-        4096, 1000000000, 1000000001, 1073741824, 2147483587, Integer.MAX_VALUE - 1, Integer.MAX_VALUE};
+    private static final int[] NUMBERS = {Integer.MIN_VALUE, Integer.MIN_VALUE + 1, -1073741824, -1000000000,
+        -101, -100, -61, -60, -12, -11, -2, -1, 0, 1, 2, 3, 4, 5, 6, 7, 8, 9, 11, 12, 15, 16, 17, 20, 21, 23, 24, 25,
+        26, 30, 31, 32, 47, 48, 49, 59, 60, 61, 62, 63, 64, 65, 75, 76, 119, 120, 121, 126, 127, 159, 160, 161,
+        191, 192, 193, 199, 200, 201, 999, 1000, 1001, 4095, 4096, 1000000000, 1000000001, 1073741824, 2147483587,
+        Integer.MAX_VALUE - 1, Integer.MAX_VALUE};
     private static final Due due = new Due();
 
     public static void main(String[] args) {

@@ -9,18 +9,24 @@ public final class BoundsTest {
     /** A number that is as told, then from where to where it may be; an end that is left out is no bound. */
     private static final String[] CALLS = {
         "voice 0:0..5 1:..24", "drop 1:0..5", "note 0:0..5 1:.. 60:0..120 1:0..8", "cut 0:0..5 0:0..1 1:..24",
-        "size 0:0..5 1:0..1", "number 0:0..5 0:0..1 1:..", "end 0:0..5", "sounds 0:0..5 1:0..", "transpose 0:0..5 1:-60..60",
+        "size 0:0..5 1:0..1", "number 0:0..5 0:0..1 1:..", "end 0:0..5", "sounds 0:0..5 1:0..",
+        "transpose 0:0..5 1:-60..60",
         "copy 0:0..5 0:.. 1:0..5 0:.. 1:..", "rule 9:0..15 0:0..3", "school 9:0..15 1:0..2 1:..8", "clear 0:0..15",
         "truth 3:0..15 1:0..2 1:.. true", "is 0:0..15 1:0..4", "seat 4:0..15 1:.. 0:0..15", "seated 4:0..15 1:..",
         "strong 3:1..16", "key 1:0..4095", "weight 1:0..2 1:0..9", "faults 0:0..15", "fault 0:.. 1:0..3", "mend 0:..",
         "canon 0:0..5 0:0..15 1:0..60 1:-60..60 1:0..2", "canons 0:0..5 0:0..15 1:-60..60 1:0..2",
-        "follows 0:0..5 1:0..1000 1:0..60 1:-60..60 1:0..2", "set 1:0..5 0:0..5 7:0..15 true 60:49..64 64:60..75 1:0..30",
-        "set 1:0..5 0:0..5 7:0..15 false 1:1..5 5:1..16 1:0..30", "set 1:0..5 0:0..5 7:0..15 true 115:105..120 120:115..120 1:0..30",
-        "set 1:0..5 0:0..5 7:0..15 false 1:1..1 1:1..16 1:0..30", "set 1:0..5 0:0..5 7:0..15 true 120:105..120 120:120..120 1:0..30",
-        "goOn 1:0..30", "print 0:0..5", "read 0:0..5", "put 3:0..8 65:32..126", "cutLine 3:0..8", "character 3:..", "trace 3:..",
+        "follows 0:0..5 1:0..1000 1:0..60 1:-60..60 1:0..2",
+        "set 1:0..5 0:0..5 7:0..15 true 60:49..64 64:60..75 1:0..30",
+        "set 1:0..5 0:0..5 7:0..15 false 1:1..5 5:1..16 1:0..30",
+        "set 1:0..5 0:0..5 7:0..15 true 115:105..120 120:115..120 1:0..30",
+        "set 1:0..5 0:0..5 7:0..15 false 1:1..1 1:1..16 1:0..30",
+        "set 1:0..5 0:0..5 7:0..15 true 120:105..120 120:120..120 1:0..30",
+        "goOn 1:0..30", "print 0:0..5", "read 0:0..5", "put 3:0..8 65:32..126", "cutLine 3:0..8", "character 3:..",
+        "trace 3:..",
         "count 1:0..7"};
     /** BAD only with a SETTING; without one they answer NONE. */
-    private static final String[] CALLS_OF_SETTINGS = {"row 3:.. 61:60..64 1:0..2", "spoil 3:.. 61:60..64 1:0..2 5:0..1000000000"};
+    private static final String[] CALLS_OF_SETTINGS = {"row 3:.. 61:60..64 1:0..2",
+            "spoil 3:.. 61:60..64 1:0..2 5:0..1000000000"};
 
     private static final Due due = new Due();
     private static final List<List<List<String>>> asItWas = new ArrayList<>();

@@ -10,12 +10,12 @@ public final class CanonSentencesTest {
         canons();
         canonsFindings();
         follows();
-        Script.end();
+        Script.end(26, 28);
     }
 
     private static void follower() {
-        Script.test("at TICK t it has, with s = t - k (HOW 2: half of that, rounded down), if v SOUNDS at s with x: x and by "
-                + "(HOW 0, 2)", """
+        Script.test("at TICK t it has, with s = t - k (HOW 2: half of that, rounded down), if v SOUNDS at s with x: x "
+                + "and by (HOW 0, 2)", """
             tune 0 60:1 62:1
             follows 0 0 0 3 0 = 63; follows 0 1 0 3 0 = 65; follows 0 2 0 3 0 = 0
             follows 0 59 60 3 0 = 0; follows 0 60 60 3 0 = 63; follows 0 61 60 3 0 = 65; follows 0 62 60 3 0 = 0
@@ -46,8 +46,8 @@ public final class CanonSentencesTest {
     }
 
     private static void canonAsked() {
-        Script.test("A CANON: what stands at a PLACE is ASKED for TICK after TICK, below END of v, of v, as a, and "
-                + "THE FOLLOWER, as b (they are two), until a RULE tells a FAULT (then nothing more is asked).", """
+        Script.test("A CANON: what stands at a PLACE is ASKED for TICK after TICK, below END of v, of v, as a, and THE "
+                + "FOLLOWER, as b (they are two), until a RULE tells a FAULT (then nothing more is asked).", """
             tune 0 60:2 64:2 67:2; rule 0 0; truths 0 0 0 4 7; strong 2
             canon 0 0 2 0 0 = 4; traced 10 1 10 1 10 1
             canon 0 0 5 0 0 = NONE; traced 10 1
@@ -114,7 +114,8 @@ public final class CanonSentencesTest {
 
     private static void canonsFindings() {
         Script.test("BAD; NOTHING, BEYOND, NOTHING likewise.", """
-            canons 0 0 0 0 = NOTHING; tune 0 60:1 60:1; canons 0 0 0 0 = NOTHING; rule 0 0; strong 1; canons 1 0 0 0 = NOTHING
+            canons 0 0 0 0 = NOTHING; tune 0 60:1 60:1; canons 0 0 0 0 = NOTHING; rule 0 0; strong 1
+            canons 1 0 0 0 = NOTHING
             canons 0 0 0 0 = 1048574; count 2 = 2
             canons 0 0 61 0 = BAD; canons 0 0 -61 0 = BAD; canons 0 0 MAX 0 = BAD; canons 0 0 MIN 0 = BAD
             canons 6 0 0 0 = BAD; canons -1 0 0 0 = BAD; canons 0 16 0 0 = BAD; canons 0 -1 0 0 = BAD

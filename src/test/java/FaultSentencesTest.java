@@ -24,7 +24,7 @@ public final class FaultSentencesTest {
         fault();
         mend();
         mendAsItIsNow();
-        Script.end();
+        Script.end(23, 25);
     }
 
     private static void distance() {
@@ -78,14 +78,18 @@ public final class FaultSentencesTest {
             """);
     }
 
-    /** {@code from} and {@code to}: what two VOICES have at TICKS 0 and 1; {@code come}: the one truth that matters. */
+    /** Two VOICES at TICKS 0 and 1, and which of COMES is the one truth that matters. */
     private static void way(String sentence, String a, String b, int come) {
         Script.test(sentence, "tune 0 " + a + "; tune 1 " + b + "; rule 0 1", RULES_TRUE,
                 "faults 0 = 0; truth 0 1 " + come + " false = 1; faults 0 = 1; fault 0 1 = 1",
-                "tune 0 " + b + "; tune 1 " + a + "; faults 0 = 1; rule 0 1; all 0 0; truths 0 1 " + come + "; faults 0 = 0");
+                "tune 0 " + b + "; tune 1 " + a + "; faults 0 = 1; rule 0 1; all 0 0; truths 0 1 " + come
+                + "; faults 0 = 0");
     }
 
     private static void ways() {
+        way("and COMES of 12 times the way and that DISTANCE modulo 12 is false", "60:1 60:1", "72:1 85:1", 13);
+        way("and COMES of 12 times the way and that DISTANCE modulo 12 is false", "1:1 2:1", "120:1 119:1", 9);
+        way("and COMES of 12 times the way and that DISTANCE modulo 12 is false", "2:1 1:1", "119:1 120:1", 11);
         way("ways 3: both moved by the same number of half steps the same way", "60:1 61:1", "60:1 61:1", 36);
         way("ways 3: both moved by the same number of half steps the same way", "60:1 61:1", "71:1 72:1", 47);
         way("ways 3: both moved by the same number of half steps the same way", "61:1 59:1", "72:1 70:1", 47);
@@ -127,12 +131,14 @@ public final class FaultSentencesTest {
     }
 
     private static void leapHow() {
-        String sentence = "at the first TICK behind t at which it is SILENT or has another PITCH than p, it SOUNDS, but not 1 "
-                + "or 2 half steps from p towards where it came from (down behind a leap up, up behind one down).";
+        String sentence = "at the first TICK behind t at which it is SILENT or has another PITCH than p, it SOUNDS, "
+                + "but not 1 or 2 half steps from p towards where it came from (down behind a leap up, up behind one "
+                + "down).";
         Script.test(sentence, "rule 0 2; truths 0 2 7", """
             tune 0 60:1 67:1 66:1; faults 0 = 0; tune 0 60:1 67:1 65:1; faults 0 = 0
             tune 0 60:1 67:1 64:1; faults 0 = 1; fault 0 1 = 1; fault 0 2 = 0; fault 0 3 = 0
-            tune 0 60:1 67:1 68:1; faults 0 = 1; tune 0 60:1 67:1 69:1; faults 0 = 1; tune 0 60:1 67:1 60:1; faults 0 = 1
+            tune 0 60:1 67:1 68:1; faults 0 = 1; tune 0 60:1 67:1 69:1; faults 0 = 1; tune 0 60:1 67:1 60:1
+            faults 0 = 1
             tune 0 67:1 60:1 61:1; faults 0 = 0; tune 0 67:1 60:1 62:1; faults 0 = 0
             tune 0 67:1 60:1 63:1; faults 0 = 1; fault 0 1 = 1
             tune 0 67:1 60:1 59:1; faults 0 = 1; tune 0 67:1 60:1 58:1; faults 0 = 1
@@ -152,10 +158,12 @@ public final class FaultSentencesTest {
             """);
         Script.test("ANSWERED of their DISTANCE (24, if it is greater) is true", "rule 0 2", """
             truths 0 2 24
-            tune 0 60:1 83:1 90:1; faults 0 = 0; tune 0 60:1 84:1 90:1; faults 0 = 1; tune 0 60:1 85:1 90:1; faults 0 = 1
+            tune 0 60:1 83:1 90:1; faults 0 = 0; tune 0 60:1 84:1 90:1; faults 0 = 1; tune 0 60:1 85:1 90:1
+            faults 0 = 1
             tune 0 1:1 120:1 90:1; faults 0 = 1; tune 0 120:1 1:1 90:1; faults 0 = 1
             truths 0 2 23; truth 0 2 24 false = 1
-            tune 0 60:1 83:1 90:1; faults 0 = 1; tune 0 60:1 84:1 90:1; faults 0 = 0; tune 0 60:1 85:1 90:1; faults 0 = 0
+            tune 0 60:1 83:1 90:1; faults 0 = 1; tune 0 60:1 84:1 90:1; faults 0 = 0; tune 0 60:1 85:1 90:1
+            faults 0 = 0
             rule 0 2; truths 0 2 1; tune 0 60:1 61:1 90:1; faults 0 = 1; tune 0 60:1 62:1 90:1; faults 0 = 0
             rule 0 2; truths 0 2 0; tune 0 60:1 60:1 90:1; faults 0 = 0
             """);
@@ -174,12 +182,14 @@ public final class FaultSentencesTest {
     }
 
     private static void mendsOfIntervals() {
-        String sentence = "[21] of INTERVALS: the PITCH of 1 .. 120 nearest to p, 1 to 24 from it, of two the lower one first, "
-                + "with which, in place of p at t alone, the RULE would tell no FAULT (each is asked, one after the other)";
+        String sentence = "[21] of INTERVALS: the PITCH of 1 .. 120 nearest to p, 1 to 24 from it, of two the lower "
+                + "one first, with which, in place of p at t alone, the RULE would tell no FAULT (each is asked, one "
+                + "after the other)";
         Script.test(sentence, mend(60, 60, 1, "59", 1), mend(60, 61, 0, "61", 2), mend(60, 61, 2, "59", 1),
                 mend(60, 62, 1, "61", 2), mend(60, 60, 11, "49", 21), mend(60, 60, 6, "54", 11));
-        Script.test(sentence, mend(1, 1, 1, "2", 1), mend(2, 2, 1, "1", 1), mend(2, 2, 2, "4", 3), mend(120, 120, 1, "119", 1),
-                mend(120, 119, 2, "117", 3), mend(119, 118, 2, "120", 2), mend(118, 119, 2, "117", 1));
+        Script.test(sentence, mend(1, 1, 1, "2", 1), mend(2, 2, 1, "1", 1), mend(2, 2, 2, "4", 3),
+                mend(120, 120, 1, "119", 1), mend(120, 119, 2, "117", 3), mend(119, 118, 2, "120", 2),
+                mend(118, 119, 2, "117", 1));
         String none = "tune 0 %d:1; tune 1 61:1; rule 0 0; faults 0 = 1; mend 0 = NONE; count 2 = %d\n";
         Script.test("NONE, if there is none;", none.formatted(60, 49), none.formatted(25, 49), none.formatted(24, 48),
                 none.formatted(1, 25), none.formatted(96, 49), none.formatted(97, 48), none.formatted(120, 25));
@@ -212,9 +222,22 @@ public final class FaultSentencesTest {
             mend 0 = 59; traced 22 3 2 1 21 3 2 1
             rule 0 3; faults 0 = 2; mend 0 = NONE; count 2 = 149
             """);
+        Script.test("else if t is the last TICK at which both SOUND", """
+            rule 0 3; truths 0 0 7; tune 0 60:1; tune 1 61:1; faults 0 = 1; mend 0 = NONE
+            tune 0 60:2; mend 0 = NONE; tune 1 61:2; mend 0 = 54; tune 0 60:1; mend 0 = NONE
+            tune 0 60:1 R:1 60:1; mend 0 = NONE; tune 1 61:3; mend 0 = 54
+            """);
     }
 
     private static void asked() {
+        Script.test("each LISTENS, and if it does, it tells whether there is a FAULT.", """
+            tune 0 60:1; tune 1 61:1; rule 0 0; rule 1 2; school 2 0 2; seat 2 0 1; seat 2 1 0
+            faults 2 = 1; traced 11 4 10 11 10 1 11 4 10; truths 0 0 1; faults 2 = 0; traced 11 4 10 11 10 1 11 4 10
+            """);
+        Script.test("each one puts its number (in [ ]) into THE TRACE as it begins.", """
+            tune 0 60:1; tune 1 61:1; rule 0 3; faults 0 = 1; traced 10 10 3 2 1 10; mend 0 = NONE; trace 0 = 22
+            trace 1 = 3; trace 2 = 2; trace 3 = 1; trace 4 = 21; trace 5 = 3; count 2 = 149
+            """);
         Script.test("What stands at a PLACE is ASKED at a TICK of two VOICES (or one twice) that both SOUND there", """
             tune 0 60:1 R:1; tune 1 R:1 61:1; rule 0 0; strong 1; faults 0 = 0; traced 10 10
             tune 1 R:1 61:1 61:1; faults 0 = 0; traced 10 10 10; drop 0; faults 0 = 0; traced 10 10
@@ -241,8 +264,8 @@ public final class FaultSentencesTest {
     }
 
     private static void faults() {
-        Script.test("VOICES that are there are gone through first, by their numbers. BAD; BEYOND; NOTHING: "
-                + "nothing stands there (what was noted stays then).", """
+        Script.test("VOICES that are there are gone through first, by their numbers. BAD; BEYOND; NOTHING: nothing "
+                + "stands there (what was noted stays then).", """
             tune 0 60:1; tune 5 61:1; rule 0 0; faults 0 = 1; count 0 = 1
             faults 16 = BAD; faults -1 = BAD; faults MAX = BAD; faults MIN = BAD; count 2 = 4
             faults 1 = NOTHING; count 0 = 1; fault 0 3 = 5; traced
@@ -272,20 +295,22 @@ public final class FaultSentencesTest {
     }
 
     private static void fault() {
-        Script.test("Of the i-th FAULT that is noted: 0 the SEAT of its RULE (NONE: no SCHOOL was asked), 1 the TICK, 2 a, 3 b. "
-                + "NONE: there is none such. BAD: what.", """
+        Script.test("Of the i-th FAULT that is noted: 0 the SEAT of its RULE (NONE: no SCHOOL was asked), 1 the TICK, "
+                + "2 a, 3 b. NONE: there is none such. BAD: what.", """
             fault 0 0 = NONE; fault 0 3 = NONE; fault 0 4 = BAD; fault 0 -1 = BAD
             tune 2 R:4 60:1; tune 4 R:4 61:1; rule 0 0; faults 0 = 1
             fault 0 0 = NONE; fault 0 1 = 4; fault 0 2 = 2; fault 0 3 = 4
             fault 0 4 = BAD; fault 0 -1 = BAD; fault 0 MAX = BAD; fault 0 MIN = BAD; fault 9 4 = BAD
             fault 1 1 = NONE; fault -1 1 = NONE; fault MAX 1 = NONE; fault MIN 1 = NONE
-            school 1 0 8; seat 1 7 0; faults 1 = 1; fault 0 0 = 7; seat 1 0 0; faults 1 = 2; fault 0 0 = 0; fault 1 0 = 7
+            school 1 0 8; seat 1 7 0; faults 1 = 1; fault 0 0 = 7; seat 1 0 0; faults 1 = 2; fault 0 0 = 0
+            fault 1 0 = 7
             clear 1; clear 0; drop 2; fault 0 0 = 0; fault 0 1 = 4; fault 0 2 = 2
             """);
     }
 
     private static void mend() {
-        Script.test("the PITCH that a should have; NONE (also: there is no such FAULT, or a or b is SILENT there now).", """
+        Script.test("the PITCH that a should have; NONE (also: there is no such FAULT, or a or b is SILENT there "
+                + "now).", """
             mend 0 = NONE; mend -1 = NONE; mend MAX = NONE; mend MIN = NONE; status = 0
             tune 0 60:1; tune 1 61:1; rule 0 0; faults 0 = 1; truths 0 0 2; mend 0 = 59; told 0 60:1; told 1 61:1
             end 5 = NOTHING; mend 0 = 59; status = 0; count 1 = 1
@@ -303,8 +328,8 @@ public final class FaultSentencesTest {
     }
 
     private static void mendAsItIsNow() {
-        Script.test("MENDS of the RULE of the i-th FAULT that is noted (wherever that RULE is now), for its TICK, a, b, "
-                + "with all as it is now", """
+        Script.test("MENDS of the RULE of the i-th FAULT that is noted (wherever that RULE is now), for its TICK, a, "
+                + "b, with all as it is now", """
             tune 0 60:1; tune 1 61:1; rule 0 0; school 1 0 1; seat 1 0 0; faults 1 = 1
             truths 0 0 7; clear 0; clear 1; mend 0 = 54
             note 1 0 66 1; mend 0 = 59; note 0 0 70 1; mend 0 = 73

@@ -15,7 +15,7 @@ public final class LineSentencesTest {
         put();
         cutLine();
         character();
-        Script.end();
+        Script.end(36, 40);
     }
 
     private static void upToOneHundredAndSixty() {
@@ -29,7 +29,8 @@ public final class LineSentencesTest {
     private static void nothingOrNotes() {
         Script.test("A VOICE is told as: nothing, or notes with one blank between", """
             tune 0 60:1; line ""; read 0 = 0; told 0; voice 1 0; print 1 = 0; says ""
-            line "60:1"; read 0 = 1; told 0 60:1; line "60:1 R:2"; read 0 = 2; told 0 60:1 R:2; print 0 = 8; says "60:1 R:2"
+            line "60:1"; read 0 = 1; told 0 60:1; line "60:1 R:2"; read 0 = 2; told 0 60:1 R:2; print 0 = 8
+            says "60:1 R:2"
             line " "; read 0 = -100; line " 60:1"; read 0 = -100; line "60:1 "; read 0 = -105
             line "60:1  61:1"; read 0 = -105; line "60:1,61:1"; read 0 = -104; line "60:161:1"; read 0 = -104
             told 0 60:1 R:2
@@ -37,16 +38,20 @@ public final class LineSentencesTest {
     }
 
     private static void aNote() {
-        Script.test("a note is R (a REST) or a number 1 .. 120 (one to three digits; told without 0s ahead), then a colon", """
+        Script.test("a note is R (a REST) or a number 1 .. 120 (one to three digits; told without 0s ahead), then a "
+                + "colon", """
             line "1:1"; read 0 = 1; told 0 1:1; line "9:1"; read 0 = 1; line "10:1"; read 0 = 1; told 0 10:1
             line "99:1"; read 0 = 1; told 0 99:1; line "100:1"; read 0 = 1; told 0 100:1; print 0 = 5; says "100:1"
             line "120:1"; read 0 = 1; told 0 120:1; print 0 = 5; says "120:1"
-            line "121:1"; read 0 = -100; line "0:1"; read 0 = -100; line "00:1"; read 0 = -100; line "000:1"; read 0 = -100
+            line "121:1"; read 0 = -100; line "0:1"; read 0 = -100; line "00:1"; read 0 = -100; line "000:1"
+            read 0 = -100
             line "999:1"; read 0 = -100; told 0 120:1
-            line "007:1"; read 0 = 1; told 0 7:1; print 0 = 3; says "7:1"; line "012:1"; read 0 = 1; print 0 = 4; says "12:1"
+            line "007:1"; read 0 = 1; told 0 7:1; print 0 = 3; says "7:1"; line "012:1"; read 0 = 1; print 0 = 4
+            says "12:1"
             line "0007:1"; read 0 = -100; line "0120:1"; read 0 = -100; line "1000:1"; read 0 = -100; told 0 12:1
             line "R:1"; read 0 = 1; told 0 R:1; line "r:1"; read 0 = -100; line "RR:1"; read 0 = -101
-            line "R1:1"; read 0 = -101; line "1R:1"; read 0 = -101; line "-1:1"; read 0 = -100; line "+1:1"; read 0 = -100
+            line "R1:1"; read 0 = -101; line "1R:1"; read 0 = -101; line "-1:1"; read 0 = -100; line "+1:1"
+            read 0 = -100
             line "60"; read 0 = -102; line "60-1"; read 0 = -102; line "60 :1"; read 0 = -102; line "R"
             read 0 = -101; line ":1"; read 0 = -100; told 0 R:1
             """);
@@ -55,7 +60,8 @@ public final class LineSentencesTest {
     private static void length() {
         Script.test("then a digit 0 .. 8, its LENGTH", """
             line "60:0"; read 0 = 1; told 0 60:0; line "60:8"; read 0 = 1; told 0 60:8; print 0 = 4; says "60:8"
-            line "60:9"; read 0 = -103; line "60:/"; read 0 = -103; line "60::"; read 0 = -103; line "60:"; read 0 = -103
+            line "60:9"; read 0 = -103; line "60:/"; read 0 = -103; line "60::"; read 0 = -103; line "60:"
+            read 0 = -103
             line "60:R"; read 0 = -103; line "60: 1"; read 0 = -103; line "60:10"; read 0 = -104; line "60:08"
             read 0 = -104; line "60:8:"; read 0 = -104; told 0 60:8
             """);
@@ -70,8 +76,8 @@ public final class LineSentencesTest {
     }
 
     private static void print() {
-        Script.test("THE LINE tells a VOICE, gone through: how many characters it has. BAD; NOTHING; BEYOND (THE LINE is as it "
-                + "was).", """
+        Script.test("THE LINE tells a VOICE, gone through: how many characters it has. BAD; NOTHING; BEYOND (THE LINE "
+                + "is as it was).", """
             line "as it was"; print 0 = NOTHING; print 6 = BAD; print -1 = BAD; print MAX = BAD; print MIN = BAD
             tune 0 1:0 10:8 R:1 99:3 120:4; cut 0 1 4; print 0 = BEYOND; says "as it was"
             cut 0 0 4; print 0 = 17; says "1:0 10:8 R:1 99:3"
@@ -82,7 +88,8 @@ public final class LineSentencesTest {
             """);
         Script.test("THE LINE tells a VOICE, gone through: how many characters it has.",
                 "tune 0 120:8" + " 120:8".repeat(23),
-                "print 0 = 143; character 142 = 56; character 143 = NONE; read 1 = 24; number 1 0 23 = 120; number 1 1 23 = 8");
+                "print 0 = 143; character 142 = 56; character 143 = NONE; read 1 = 24; number 1 0 23 = 120; number 1 1 "
+                + "23 = 8");
     }
 
     private static void read() {
@@ -94,8 +101,10 @@ public final class LineSentencesTest {
     }
 
     private static void readPlaces() {
-        Script.test("or -100 less the place of the first character that can not come (THE LINE's end: how many it has).", """
-            tune 0 50:5; undo; undo; tune 0 50:5; drop 5; undo; line "x"; read 0 = -100; line "60:1 61:1 x"; read 0 = -110
+        Script.test("or -100 less the place of the first character that can not come (THE LINE's end: how many it "
+                + "has).", """
+            tune 0 50:5; undo; undo; tune 0 50:5; drop 5; undo; line "x"; read 0 = -100; line "60:1 61:1 x"
+            read 0 = -110
             line "60:1 61:1 62"; read 0 = -112; line "60:1 61:1 62:"; read 0 = -113; line "60:1 61:1 "; read 0 = -110
             line "60:1 61:1 R"; read 0 = -111; line "60:1 61:1x 99"; read 0 = -109
             told 0 50:5; count 7 = 0; read 0 = -109; status = 0
@@ -104,7 +113,8 @@ public final class LineSentencesTest {
     }
 
     private static void readNumbers() {
-        Script.test("(A number that is not as told can not come where it begins; it has all digits that stand there.)", """
+        Script.test("(A number that is not as told can not come where it begins; it has all digits that stand there.)",
+                """
             line "60:1 121:1"; read 0 = -105; line "60:1 1200:1"; read 0 = -105; line "60:1 0:1"; read 0 = -105
             line "60:1 1234"; read 0 = -105; line "60:1 0060:1"; read 0 = -105; line "60:1 121"; read 0 = -105
             line "60:1 120"; read 0 = -108; line "60:1 120x"; read 0 = -108; line "99999999999:1"; read 0 = -100

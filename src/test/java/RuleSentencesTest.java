@@ -15,7 +15,7 @@ public final class RuleSentencesTest {
         strong();
         key();
         weight();
-        Script.end();
+        Script.end(13, 22);
     }
 
     private static void places() {
@@ -40,8 +40,8 @@ public final class RuleSentencesTest {
     }
 
     private static void truthsOfKinds() {
-        String sentence = "An INTERVAL has truths 0 .. 11, its RESTS; a MOTION besides 0 .. 47, its COMES; a LEAP 0 .. 24, "
-                + "its ANSWERED; all are false at first.";
+        String sentence = "An INTERVAL has truths 0 .. 11, its RESTS; a MOTION besides 0 .. 47, its COMES; a LEAP 0 .. "
+                + "24, its ANSWERED; all are false at first.";
         int[][] kindAndAs = {{0, 0, 12}, {1, 0, 12}, {1, 1, 48}, {3, 0, 12}, {3, 1, 48}, {2, 2, 25}};
         for (int[] k : kindAndAs) {
             StringBuilder text = new StringBuilder("rule 0 " + k[0] + "\n");
@@ -65,8 +65,8 @@ public final class RuleSentencesTest {
     }
 
     private static void seats() {
-        Script.test("A SCHOOL has 0 .. 8 SEATS of a TYPE, 0 for any RULE, 1 for INTERVALS, 2 for LEAPS, "
-                + "each with a RULE or nothing.", """
+        Script.test("A SCHOOL has 0 .. 8 SEATS of a TYPE, 0 for any RULE, 1 for INTERVALS, 2 for LEAPS, each with a "
+                + "RULE or nothing.", """
             school 9 0 0; seated 9 0 = BEYOND; seated 9 -1 = BEYOND
             school 9 0 8; seated 9 0 = NONE; seated 9 7 = NONE; seated 9 8 = BEYOND
             rule 0 0; rule 1 1; rule 2 2; rule 3 3
@@ -103,7 +103,8 @@ public final class RuleSentencesTest {
     }
 
     private static void school() {
-        Script.test("A new SCHOOL of n SEATS of a TYPE stands at a PLACE: 1. BAD: r, type, n above 8; SIZE: n below 0.", """
+        Script.test("A new SCHOOL of n SEATS of a TYPE stands at a PLACE: 1. BAD: r, type, n above 8; SIZE: n below "
+                + "0.", """
             rule 1 0; school 0 0 2 = 1; seat 0 1 1; school 0 0 2 = 1; seated 0 1 = NONE
             school 0 2 8 = 1; seated 0 7 = NONE; school 0 1 0 = 1; seated 0 0 = BEYOND
             school 1 0 -1 = SIZE; school 1 0 MIN = SIZE; is 1 0 = 1; school 15 2 -1 = SIZE; is 15 4 = 0
@@ -121,7 +122,8 @@ public final class RuleSentencesTest {
     }
 
     private static void truth() {
-        Script.test("TAKEN AS an INTERVAL (as = 0: RESTS), a MOTION (1: COMES), a LEAP (2: ANSWERED): what it was (1, 0).",
+        Script.test("TAKEN AS an INTERVAL (as = 0: RESTS), a MOTION (1: COMES), a LEAP (2: ANSWERED): what it was (1, "
+                + "0).",
                 """
             rule 0 3; truth 0 0 5 true = 0; truth 0 0 5 true = 1; truth 0 0 5 false = 1; truth 0 0 5 false = 0
             truth 0 1 47 true = 0; truth 0 1 47 false = 1; truth 0 1 47 false = 0
@@ -147,10 +149,11 @@ public final class RuleSentencesTest {
     }
 
     private static void seat() {
-        Script.test("SEAT k of what stands at PLACE s, TAKEN AS a SCHOOL, gets what stands at PLACE r, "
-                + "TAKEN AS a RULE (or nothing): 1.", """
+        Script.test("SEAT k of what stands at PLACE s, TAKEN AS a SCHOOL, gets what stands at PLACE r, TAKEN AS a RULE "
+                + "(or nothing): 1.", """
             school 15 0 8; rule 0 0; rule 1 2; seat 15 0 0 = 1; seat 15 7 1 = 1; seated 15 0 = 0; seated 15 7 = 2
-            seated 15 1 = NONE; seated 15 6 = NONE; seat 15 0 1 = 1; seated 15 0 = 2; seat 15 0 9 = 1; seated 15 0 = NONE
+            seated 15 1 = NONE; seated 15 6 = NONE; seat 15 0 1 = 1; seated 15 0 = 2; seat 15 0 9 = 1
+            seated 15 0 = NONE
             seat 15 3 9 = 1; seated 15 3 = NONE
             truths 1 2 7; clear 1; tune 0 60:1 67:1 70:1; faults 15 = 1; fault 0 0 = 7
             """);
@@ -173,7 +176,8 @@ public final class RuleSentencesTest {
         Script.test("KIND of the RULE in SEAT k of what stands at a PLACE, TAKEN AS a SCHOOL; NONE: nothing is there. "
                 + "BAD; CAST; NOTHING; BEYOND.", """
             rule 0 0; rule 1 1; rule 2 2; rule 3 3; school 4 0 4
-            seat 4 0 3; seat 4 1 2; seat 4 2 1; seat 4 3 0; seated 4 0 = 3; seated 4 1 = 2; seated 4 2 = 1; seated 4 3 = 0
+            seat 4 0 3; seat 4 1 2; seat 4 2 1; seat 4 3 0; seated 4 0 = 3; seated 4 1 = 2; seated 4 2 = 1
+            seated 4 3 = 0
             seated 4 4 = BEYOND; seated 4 -1 = BEYOND; seated 4 MAX = BEYOND; seated 4 MIN = BEYOND
             seat 4 3 9; seated 4 3 = NONE; status = 0
             seated 0 9 = CAST; seated 9 9 = NOTHING; seated 16 0 = BAD; seated -1 0 = BAD; seated MAX 9 = BAD

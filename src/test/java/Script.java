@@ -1,8 +1,11 @@
 import java.io.IOException;
+import java.io.UncheckedIOException;
 import java.lang.reflect.Method;
+import java.lang.reflect.Modifier;
 import java.nio.file.Files;
 import java.nio.file.Path;
 import java.util.ArrayList;
+import java.util.Arrays;
 import java.util.HashMap;
 import java.util.List;
 import java.util.Map;
@@ -65,8 +68,9 @@ final class Script {
         }
     }
 
-    static void end() {
-        holdAgainstTheDocument();
+    /** The tests of these promises, and of terms that they rest on, end. */
+    static void end(int firstPromise, int lastPromise) {
+        holdAgainstTheDocument(firstPromise, lastPromise);
         System.out.println(QUOTED.size() + " sentences, " + asked + " answers, " + wrong + " not as due");
         if (wrong != 0) {
             System.exit(1);
@@ -74,18 +78,31 @@ final class Script {
     }
 
     /** A sentence that the document does not have (any more) must not look as if it were held. */
-    private static void holdAgainstTheDocument() {
+    private static void holdAgainstTheDocument(int firstPromise, int lastPromise) {
+        String document = document();
+        for (String quote : QUOTED) {
+            tell(document.contains(quote), "not in the document: " + quote);
+        }
+        for (int n = firstPromise; n <= lastPromise; n++) {
+            int begin = document.indexOf("## Promise " + n + ":");
+            int end = document.indexOf("## ", begin + 1);
+            String promise = begin >= 0 && end >= 0 ? document.substring(begin, end) : "";
+            tell(QUOTED.stream().anyMatch(promise::contains), "no sentence of promise " + n);
+        }
+    }
+
+    private static String document() {
         try {
-            String document = Files.readString(DOCUMENT).replaceAll("\\s+", " ");
-            for (String quote : QUOTED) {
-                if (!document.contains(quote)) {
-                    wrong++;
-                    System.out.println("not in the document: " + quote);
-                }
-            }
+            return Files.readString(DOCUMENT).replaceAll("\\s+", " ");
         } catch (IOException e) {
+            throw new UncheckedIOException(e);
+        }
+    }
+
+    private static void tell(boolean is, String what) {
+        if (!is) {
             wrong++;
-            System.out.println("no document: " + e.getMessage());
+            System.out.println(what);
         }
     }
 
@@ -114,7 +131,7 @@ final class Script {
 
     private static Method named(Object school, String name) {
         for (Method method : school.getClass().getDeclaredMethods()) {
-            if (method.getName().equals(name) && java.lang.reflect.Modifier.isPublic(method.getModifiers())) {
+            if (method.getName().equals(name) && Modifier.isPublic(method.getModifiers())) {
                 return method;
             }
         }
@@ -167,7 +184,7 @@ final class Script {
     private void plainCall(String[] words) {
         boolean isDue = words.length > 2 && words[words.length - 2].equals("=");
         int end = isDue ? words.length - 2 : words.length;
-        int got = ask((Object[]) java.util.Arrays.copyOf(words, end));
+        int got = ask((Object[]) Arrays.copyOf(words, end));
         if (isDue) {
             due(words[0], number(words[words.length - 1]), got);
         }

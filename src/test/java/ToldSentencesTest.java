@@ -12,9 +12,10 @@ public final class ToldSentencesTest {
         countOfFindings();
         countOfCopied();
         countOfSteps();
+        countOfTrace();
         countBad();
         changeNothing();
-        Script.end();
+        Script.end(41, 43);
     }
 
     private static void status() {
@@ -28,7 +29,8 @@ public final class ToldSentencesTest {
             Script.test("The FINDING of the latest of the calls above that was not BAD", made, call,
                     "status = 0; count 1 = 1");
         }
-        Script.test("0: it met none.", made, "set 0 0 0 true 60 60 0 = 1; goOn 31; undo; undo; status = 7; goOn 1 = 0; status = 0",
+        Script.test("0: it met none.", made, "set 0 0 0 true 60 60 0 = 1; goOn 31; undo; undo; status = 7; goOn 1 = 0; "
+                + "status = 0",
                 "goOn 1 = STATE; status = 7; line \"R:1\"; status = 7; read 0 = 1; status = 0");
     }
 
@@ -61,7 +63,8 @@ public final class ToldSentencesTest {
     private static void traceEmptied() {
         String traced = "tune 0 60:1; rule 0 0; faults 0 = 0; traced 10\n";
         Script.test("which is empty ahead of each faults(), mend(), canon(), canons() that is not BAD",
-                traced + "faults 9 = NOTHING; traced", traced + "mend 0 = NONE; traced", traced + "mend MIN = NONE; traced",
+                traced + "faults 9 = NOTHING; traced", traced + "mend 0 = NONE; traced", traced
+                + "mend MIN = NONE; traced",
                 traced + "canon 1 0 0 0 0 = NOTHING; traced", traced + "canons 0 9 0 0 = NOTHING; traced",
                 traced + "canon 0 0 0 0 0 = 0; traced 10 1", traced + "canons 0 0 0 0 = 1048575; traced",
                 traced + "cut 0 1 0; faults 0 = BEYOND; traced", traced + "faults 0 = 0; traced 10",
@@ -89,9 +92,11 @@ public final class ToldSentencesTest {
         Script.test("3 VOICES that are there", text.toString());
         text = new StringBuilder();
         for (int r = 0; r < 16; r++) {
-            text.append(r % 2 == 0 ? "rule " + r + " 2" : "school " + r + " 0 0").append("; count 4 = " + (r + 1) + "\n");
+            text.append(r % 2 == 0 ? "rule " + r + " 2" : "school " + r + " 0 0").append("; count 4 = " + (r + 1)
+                    + "\n");
         }
-        text.append("rule 0 1; count 4 = 16; clear 0; clear 15; count 4 = 14; clear 0; count 4 = 14; school 0 0 -1; count 4 = 14");
+        text.append("rule 0 1; count 4 = 16; clear 0; clear 15; count 4 = 14; clear 0; count 4 = 14; school 0 0 -1; "
+                + "count 4 = 14");
         Script.test("4 PLACES with something", text.toString());
         Script.test("7 whether a VOICE is KEPT.", """
             count 7 = 0; drop 0; count 7 = 1; voice 0 1; count 7 = 1; undo; count 7 = 0; undo; count 7 = 0
@@ -102,7 +107,8 @@ public final class ToldSentencesTest {
     private static void countOfFaults() {
         Script.test("0 FAULTS of the latest faults() that met no FINDING", """
             count 0 = 0; tune 0 60:1; tune 1 61:1; rule 0 0; faults 0 = 1; count 0 = 1; faults 9 = NOTHING; count 0 = 1
-            cut 1 1 0; faults 0 = BEYOND; count 0 = 1; faults 16 = BAD; count 0 = 1; mend 0; canon 0 0 0 0 0 = 0; count 0 = 1
+            cut 1 1 0; faults 0 = BEYOND; count 0 = 1; faults 16 = BAD; count 0 = 1; mend 0; canon 0 0 0 0 0 = 0
+            count 0 = 1
             drop 1; faults 0 = 0; count 0 = 0; rule 1 0; faults 9 = NOTHING; count 0 = 0
             """);
     }
@@ -120,7 +126,8 @@ public final class ToldSentencesTest {
         Script.test("6 ROWS that the latest copy() that was not BAD copied", """
             count 6 = 0; tune 0 60:1; copy 0 0 0 0 1 = 1; count 6 = 2; copy 6 0 0 0 1 = BAD; count 6 = 2
             copy 0 0 1 0 1 = NOTHING; count 6 = 0; copy 0 0 0 0 0 = 0; count 6 = 2; copy 0 0 0 0 2 = BEYOND; count 6 = 0
-            cut 0 1 0; copy 0 0 0 0 1 = BEYOND; count 6 = 1; copy 0 0 6 0 1 = BAD; count 6 = 1; undo; voice 0 3; count 6 = 1
+            cut 0 1 0; copy 0 0 0 0 1 = BEYOND; count 6 = 1; copy 0 0 6 0 1 = BAD; count 6 = 1; undo; voice 0 3
+            count 6 = 1
             """);
     }
 
@@ -130,7 +137,17 @@ public final class ToldSentencesTest {
             goOn 2 = 1; count 5 = 2; goOn 30 = 0; count 5 = 3; goOn 30 = STATE; count 5 = 3
             set 1 5 0 true 60 64 0 = NOTHING; count 5 = 3; set 1 0 0 true 60 64 31 = BAD; count 5 = 3
             set 1 0 0 true 60 64 1 = 2; count 5 = 1; voice 0 0; set 1 0 0 true 60 64 30 = 0; count 5 = 0
-            """, "tune 0 60:1" + " 60:1".repeat(23), "voice 1 24; set 1 0 0 true 60 64 23 = 1; count 5 = 23; goOn 30 = 0; count 5 = 24");
+            """, "tune 0 60:1" + " 60:1".repeat(23), """
+            voice 1 24; set 1 0 0 true 60 64 23 = 1; count 5 = 23; goOn 30 = 0; count 5 = 24
+            """);
+    }
+
+    private static void countOfTrace() {
+        Script.test("2 how many numbers THE TRACE has (all)", """
+            count 2 = 0; tune 0 60:8 60:8 60:8 60:8 60:8 60:8 60:8 60:8; rule 0 2; faults 0 = 0; count 2 = 128
+            trace 60 = NONE
+            faults 16 = BAD; count 2 = 128; mend 0 = NONE; count 2 = 0; canons 0 0 0 0 = 1048575; count 2 = 1070
+            """);
     }
 
     private static void countBad() {

@@ -1,7 +1,7 @@
 /** What the document says of answers and of VOICES, and promises 1 to 12, sentence by sentence. */
 public final class VoiceSentencesTest {
-    private static final String FULL = "60:8 60:8 60:8 60:8 60:8 60:8 60:8 60:8 60:8 60:8 60:8 60:8 "
-            + "60:8 60:8 60:8 60:8 60:8 60:8 60:8 60:8 60:8 60:8 60:8 60:8";
+    private static final String FULL = "60:8 60:8 60:8 60:8 60:8 60:8 60:8 60:8 60:8 60:8 60:8 60:8 60:8 60:8 60:8 "
+            + "60:8 60:8 60:8 60:8 60:8 60:8 60:8 60:8 60:8";
 
     public static void main(String[] args) {
         answers();
@@ -22,7 +22,7 @@ public final class VoiceSentencesTest {
         kept();
         keptNot();
         keptByTunes();
-        Script.end();
+        Script.end(1, 12);
     }
 
     private static void answers() {
@@ -39,8 +39,8 @@ public final class VoiceSentencesTest {
             set 0 0 0 true 1 17 0 = BAD; set 0 0 0 true 1 1 31 = BAD; goOn 31 = BAD; print 6 = BAD
             status = 0; count 1 = 0
             """);
-        Script.test("-10 less a FINDING, the first that the act meets: 1 NOTHING, 2 BEYOND, 3 CAST, 4 STORE, 5 SIZE, "
-                + "6 RANGE, 7 STATE.", """
+        Script.test("-10 less a FINDING, the first that the act meets: 1 NOTHING, 2 BEYOND, 3 CAST, 4 STORE, 5 SIZE, 6 "
+                + "RANGE, 7 STATE.", """
             end 0 = -11; status = 1
             voice 0 1; number 0 0 1 = -12; status = 2
             rule 0 0; seated 0 0 = -13; status = 3
@@ -86,9 +86,8 @@ public final class VoiceSentencesTest {
     }
 
     private static void goingThrough() {
-        String throughAll = "end 0 = %1$s; sounds 0 0 = %1$s; sounds 0 MAX = %1$s; print 0 = %1$s\n"
-                + "canon 0 0 0 0 0 = %1$s; canons 0 0 0 0 = %1$s; follows 0 0 0 0 0 = %1$s\n"
-                + "set 1 0 0 true 60 60 0 = %1$s\n";
+        String throughAll = "end 0 = %1$s; sounds 0 0 = %1$s; sounds 0 MAX = %1$s; print 0 = %1$s\ncanon 0 0 0 0 0 = "
+                + "%1$s; canons 0 0 0 0 = %1$s; follows 0 0 0 0 0 = %1$s\nset 1 0 0 true 60 60 0 = %1$s\n";
         Script.test("To go through a VOICE: NOTHING, if it is MISSING", "rule 0 0", throughAll.formatted("NOTHING"),
                 "voice 0 1; drop 0", throughAll.formatted("NOTHING"));
         Script.test("of NOTE after NOTE, the PITCH and the LENGTH: BEYOND, if LENGTHS has no such place.",
@@ -101,8 +100,8 @@ public final class VoiceSentencesTest {
     }
 
     private static void ticks() {
-        Script.test("A NOTE stands on as many TICKS as its LENGTH tells, behind those of the NOTES ahead of it; "
-                + "the first one begins at TICK 0.", """
+        Script.test("A NOTE stands on as many TICKS as its LENGTH tells, behind those of the NOTES ahead of it; the "
+                + "first one begins at TICK 0.", """
             tune 0 60:2 61:0 62:1 R:1 63:8
             sounds 0 0 = 60; sounds 0 1 = 60; sounds 0 2 = 62; sounds 0 3 = 0; sounds 0 4 = 63; sounds 0 11 = 63
             sounds 0 12 = 0
@@ -219,8 +218,8 @@ public final class VoiceSentencesTest {
             end 0 = NOTHING; end 5 = NOTHING; end 6 = BAD; end -1 = BAD; end MAX = BAD; end MIN = BAD
             tune 0 60:8 R:8 61:0; end 0 = 16; cut 0 1 2; end 0 = BEYOND; cut 0 0 2; end 0 = 16; cut 0 0 1; end 0 = 8
             """);
-        Script.test("The PITCH with which a VOICE, gone through, SOUNDS at TICK t; 0: it is SILENT. "
-                + "BAD: v, t below 0; NOTHING; BEYOND.", """
+        Script.test("The PITCH with which a VOICE, gone through, SOUNDS at TICK t; 0: it is SILENT. BAD: v, t below 0; "
+                + "NOTHING; BEYOND.", """
             sounds 0 0 = NOTHING; sounds 0 -1 = BAD; sounds 0 MIN = BAD; sounds 6 0 = BAD; sounds -1 0 = BAD
             tune 0 1:1 120:1; sounds 0 0 = 1; sounds 0 1 = 120; sounds 0 2 = 0; sounds 0 MAX = 0
             cut 0 1 1; sounds 0 0 = BEYOND; sounds 0 2 = BEYOND; sounds 0 -1 = BAD
@@ -246,8 +245,8 @@ public final class VoiceSentencesTest {
     }
 
     private static void copy() {
-        Script.test("n PITCHES of a VOICE from i on come to those of another one (or the same) from k on, "
-                + "then LENGTHS likewise: n.", """
+        Script.test("n PITCHES of a VOICE from i on come to those of another one (or the same) from k on, then LENGTHS "
+                + "likewise: n.", """
             tune 0 60:1 61:2 62:3 63:4; voice 1 3
             copy 0 1 1 0 2 = 2; told 1 61:2 62:3 R:1; told 0 60:1 61:2 62:3 63:4; count 6 = 2
             copy 0 3 1 2 1 = 1; told 1 61:2 62:3 63:4
@@ -259,8 +258,8 @@ public final class VoiceSentencesTest {
             copy 0 4 1 3 0 = 0; count 6 = 2
             voice 4 0; copy 4 0 4 0 0 = 0
             """);
-        Script.test("BAD: the VOICES; NOTHING: from, then to; BEYOND: of PITCHES; then of LENGTHS "
-                + "(the PITCHES have come then, and stay).", """
+        Script.test("BAD: the VOICES; NOTHING: from, then to; BEYOND: of PITCHES; then of LENGTHS (the PITCHES have "
+                + "come then, and stay).", """
             copy 6 0 0 0 1 = BAD; copy 0 0 6 0 1 = BAD; copy -1 0 0 0 1 = BAD; copy 0 0 -1 0 1 = BAD
             copy MAX 0 0 0 1 = BAD; copy 0 0 MIN 0 1 = BAD
             copy 0 -1 1 0 1 = NOTHING; tune 0 60:5 61:6; copy 0 0 1 0 9 = NOTHING; copy 1 0 0 0 9 = NOTHING
@@ -300,8 +299,8 @@ public final class VoiceSentencesTest {
     private static void kept() {
         String was = "tune 0 60:1 61:2; ";
         String comesBack = "; count 7 = 1; undo = 1; told 0 60:1 61:2; undo = STATE\n";
-        Script.test("KEPT is a VOICE as it was (or that it was MISSING) ahead of the latest of voice(), drop(), note(), "
-                + "cut(), transpose(), copy(), read() that was not BAD",
+        Script.test("KEPT is a VOICE as it was (or that it was MISSING) ahead of the latest of voice(), drop(), "
+                + "note(), cut(), transpose(), copy(), read() that was not BAD",
                 was + "voice 0 3; told 0 R:1 R:1 R:1" + comesBack, was + "drop 0; size 0 0 = NOTHING" + comesBack,
                 was + "note 0 1 0 0; told 0 60:1 R:0" + comesBack, was + "cut 0 1 0; size 0 1 = 0" + comesBack,
                 was + "transpose 0 -1; told 0 59:1 60:2" + comesBack,
